@@ -41,6 +41,7 @@ final class PromiseTest {
         test.mark();
         test.sweep();
         test.count();
+        test.leastStyleOnOthers();
         test.objectsAreApart();
         test.due.end();
     }
@@ -842,6 +843,20 @@ final class PromiseTest {
         due.is(false, () -> x.rebase(0, 63));
         due.answers(1, () -> x.drop(0));
         due.answers(63, () -> x.count(4));
+    }
+
+    private void leastStyleOnOthers() {
+        due.promise("3, 8, 19 style 0 based on another one");
+        StyleSheet x = new StyleSheet();
+        x.make(1, -1);
+        x.make(1, -1);
+        x.make(1, -1);
+        x.rebase(0, 2);
+        due.answers(2, () -> x.count(4));
+        due.answers(1, () -> x.style(2, 1));
+        due.answers(1, () -> x.drop(2));
+        due.answers(-1, () -> x.style(0, 2));
+        due.answers(1, () -> x.count(4));
     }
 
     private void objectsAreApart() {
