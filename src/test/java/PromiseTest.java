@@ -1,15 +1,6 @@
-import java.util.NoSuchElementException;
-
 /** Each promise of the document: ordinary inputs, the edges that it names, and wrong inputs. */
-final class PromiseTest {
-    private static final Class<NoSuchElementException> NO_ELEMENT = NoSuchElementException.class;
-    private static final Class<IllegalArgumentException> ARGUMENT = IllegalArgumentException.class;
-    private static final Class<IllegalStateException> STATE = IllegalStateException.class;
-    private static final int LOW = Integer.MIN_VALUE;
-    private static final int HIGH = Integer.MAX_VALUE;
+final class PromiseTest extends Due {
     private static final int[] FAR = {LOW, -2, HIGH};
-
-    private final Due due = new Due();
 
     public static void main(String[] args) {
         PromiseTest test = new PromiseTest();
@@ -43,230 +34,230 @@ final class PromiseTest {
         test.count();
         test.leastStyleOnOthers();
         test.objectsAreApart();
-        test.due.end();
+        test.end();
     }
 
     private void newObject() {
-        due.promise("1 a new object");
+        promise("1 a new object");
         StyleSheet x = new StyleSheet();
-        due.answers(0, () -> x.count(0));
-        due.answers(1, () -> x.count(1));
-        due.answers(0, () -> x.count(2));
-        due.answers(0, () -> x.count(3));
-        due.answers(0, () -> x.count(4));
-        due.answers(0, () -> x.size(0));
-        due.answers(-1, () -> x.size(1));
-        due.answers(-1, () -> x.size(255));
+        answers(0, () -> x.count(0));
+        answers(1, () -> x.count(1));
+        answers(0, () -> x.count(2));
+        answers(0, () -> x.count(3));
+        answers(0, () -> x.count(4));
+        answers(0, () -> x.size(0));
+        answers(-1, () -> x.size(1));
+        answers(-1, () -> x.size(255));
         for (int property = 0; property < 24; property++) {
             int p = property;
-            due.answers(0, () -> x.resolve(0, -1, -1, p));
-            due.answers(-1, () -> x.get(0, p));
+            answers(0, () -> x.resolve(0, -1, -1, p));
+            answers(-1, () -> x.get(0, p));
         }
         for (int number = 0; number < 64; number++) {
             int style = number;
-            due.refuses(NO_ELEMENT, () -> x.style(style, 0));
+            refuses(NO_ELEMENT, () -> x.style(style, 0));
         }
-        due.answers(1, () -> x.mark(0));
-        due.answers(0, () -> x.sweep());
+        answers(1, () -> x.mark(0));
+        answers(0, () -> x.sweep());
     }
 
     private void make() {
-        due.promise("2 make");
+        promise("2 make");
         StyleSheet x = new StyleSheet();
-        due.answers(0, () -> x.make(0, -1));
-        due.answers(1, () -> x.make(1, -1));
-        due.answers(2, () -> x.make(0, 0));
-        due.answers(3, () -> x.make(1, 1));
-        due.answers(0, () -> x.style(2, 2));
-        due.answers(0, () -> x.style(2, 3));
-        due.answers(0, () -> x.style(2, 4));
-        due.answers(1, () -> x.style(3, 2));
-        due.answers(1, () -> x.style(3, 3));
-        due.refuses(ARGUMENT, () -> x.make(2, -1));
-        due.refuses(ARGUMENT, () -> x.make(-1, -1));
-        due.refuses(ARGUMENT, () -> x.make(LOW, -1));
-        due.refuses(ARGUMENT, () -> x.make(HIGH, -1));
-        due.refuses(ARGUMENT, () -> x.make(0, 1));
-        due.refuses(ARGUMENT, () -> x.make(1, 0));
-        due.refuses(ARGUMENT, () -> x.make(0, 4));
-        due.refuses(ARGUMENT, () -> x.make(0, 64));
+        answers(0, () -> x.make(0, -1));
+        answers(1, () -> x.make(1, -1));
+        answers(2, () -> x.make(0, 0));
+        answers(3, () -> x.make(1, 1));
+        answers(0, () -> x.style(2, 2));
+        answers(0, () -> x.style(2, 3));
+        answers(0, () -> x.style(2, 4));
+        answers(1, () -> x.style(3, 2));
+        answers(1, () -> x.style(3, 3));
+        refuses(ARGUMENT, () -> x.make(2, -1));
+        refuses(ARGUMENT, () -> x.make(-1, -1));
+        refuses(ARGUMENT, () -> x.make(LOW, -1));
+        refuses(ARGUMENT, () -> x.make(HIGH, -1));
+        refuses(ARGUMENT, () -> x.make(0, 1));
+        refuses(ARGUMENT, () -> x.make(1, 0));
+        refuses(ARGUMENT, () -> x.make(0, 4));
+        refuses(ARGUMENT, () -> x.make(0, 64));
         for (int far : FAR) {
-            due.refuses(ARGUMENT, () -> x.make(0, far));
-            due.refuses(ARGUMENT, () -> x.make(1, far));
+            refuses(ARGUMENT, () -> x.make(0, far));
+            refuses(ARGUMENT, () -> x.make(1, far));
         }
-        due.answers(4, () -> x.count(0));
-        due.answers(4, () -> x.make(0, 2));
-        due.answers(0, () -> x.drop(4));
-        due.answers(0, () -> x.drop(2));
-        due.answers(2, () -> x.make(1, 3));
-        due.answers(4, () -> x.make(1, 2));
-        due.answers(5, () -> x.make(1, -1));
+        answers(4, () -> x.count(0));
+        answers(4, () -> x.make(0, 2));
+        answers(0, () -> x.drop(4));
+        answers(0, () -> x.drop(2));
+        answers(2, () -> x.make(1, 3));
+        answers(4, () -> x.make(1, 2));
+        answers(5, () -> x.make(1, -1));
     }
 
     private void makeAll() {
-        due.promise("2 make, all numbers given");
+        promise("2 make, all numbers given");
         StyleSheet x = new StyleSheet();
         for (int number = 0; number < 64; number++) {
             int n = number;
-            due.answers(n, () -> x.make(n % 2, -1));
+            answers(n, () -> x.make(n % 2, -1));
         }
-        due.refuses(STATE, () -> x.make(0, -1));
-        due.refuses(STATE, () -> x.make(1, 63));
-        due.refuses(ARGUMENT, () -> x.make(0, 63));
-        due.refuses(ARGUMENT, () -> x.make(2, -1));
-        due.refuses(ARGUMENT, () -> x.make(0, 64));
-        due.answers(64, () -> x.count(0));
-        due.answers(0, () -> x.drop(40));
-        due.answers(40, () -> x.make(1, 63));
-        due.refuses(STATE, () -> x.make(1, -1));
-        due.answers(63, () -> x.style(40, 2));
+        refuses(STATE, () -> x.make(0, -1));
+        refuses(STATE, () -> x.make(1, 63));
+        refuses(ARGUMENT, () -> x.make(0, 63));
+        refuses(ARGUMENT, () -> x.make(2, -1));
+        refuses(ARGUMENT, () -> x.make(0, 64));
+        answers(64, () -> x.count(0));
+        answers(0, () -> x.drop(40));
+        answers(40, () -> x.make(1, 63));
+        refuses(STATE, () -> x.make(1, -1));
+        answers(63, () -> x.style(40, 2));
     }
 
     private void drop() {
-        due.promise("3 drop");
+        promise("3 drop");
         StyleSheet x = new StyleSheet();
         x.make(1, -1);
         x.make(1, 0);
         x.make(1, 1);
         x.make(1, 1);
         x.make(1, 2);
-        due.answers(2, () -> x.drop(1));
-        due.answers(0, () -> x.style(2, 2));
-        due.answers(0, () -> x.style(3, 2));
-        due.answers(2, () -> x.style(4, 2));
-        due.answers(3, () -> x.style(4, 0));
-        due.answers(2, () -> x.drop(0));
-        due.answers(-1, () -> x.style(2, 2));
-        due.answers(-1, () -> x.style(3, 2));
-        due.answers(0, () -> x.drop(4));
-        due.answers(2, () -> x.count(0));
-        due.refuses(NO_ELEMENT, () -> x.drop(0));
-        due.refuses(NO_ELEMENT, () -> x.drop(4));
-        due.refuses(NO_ELEMENT, () -> x.drop(-1));
-        due.refuses(NO_ELEMENT, () -> x.drop(64));
+        answers(2, () -> x.drop(1));
+        answers(0, () -> x.style(2, 2));
+        answers(0, () -> x.style(3, 2));
+        answers(2, () -> x.style(4, 2));
+        answers(3, () -> x.style(4, 0));
+        answers(2, () -> x.drop(0));
+        answers(-1, () -> x.style(2, 2));
+        answers(-1, () -> x.style(3, 2));
+        answers(0, () -> x.drop(4));
+        answers(2, () -> x.count(0));
+        refuses(NO_ELEMENT, () -> x.drop(0));
+        refuses(NO_ELEMENT, () -> x.drop(4));
+        refuses(NO_ELEMENT, () -> x.drop(-1));
+        refuses(NO_ELEMENT, () -> x.drop(64));
         for (int far : FAR) {
-            due.refuses(NO_ELEMENT, () -> x.drop(far));
+            refuses(NO_ELEMENT, () -> x.drop(far));
         }
-        due.answers(2, () -> x.count(0));
+        answers(2, () -> x.count(0));
     }
 
     private void dropForgets() {
-        due.promise("3 drop, what is gone");
+        promise("3 drop, what is gone");
         StyleSheet x = new StyleSheet();
         x.make(0, -1);
         x.make(0, 0);
         x.own(0, 3, 1);
         x.own(0, 20, 500);
-        due.answers(500, () -> x.value(1, 20));
-        due.answers(1, () -> x.drop(0));
-        due.answers(-1, () -> x.value(1, 20));
-        due.answers(0, () -> x.count(2));
-        due.answers(0, () -> x.make(1, -1));
-        due.answers(0, () -> x.style(0, 4));
-        due.answers(-1, () -> x.value(0, 20));
-        due.answers(0, () -> x.style(0, 1));
-        due.answers(-1, () -> x.style(1, 2));
+        answers(500, () -> x.value(1, 20));
+        answers(1, () -> x.drop(0));
+        answers(-1, () -> x.value(1, 20));
+        answers(0, () -> x.count(2));
+        answers(0, () -> x.make(1, -1));
+        answers(0, () -> x.style(0, 4));
+        answers(-1, () -> x.value(0, 20));
+        answers(0, () -> x.style(0, 1));
+        answers(-1, () -> x.style(1, 2));
     }
 
     private void rebase() {
-        due.promise("4 rebase");
+        promise("4 rebase");
         StyleSheet x = new StyleSheet();
         x.make(1, -1);
         x.make(1, 0);
         x.make(1, 1);
         x.make(0, -1);
         x.own(0, 8, 7);
-        due.is(true, () -> x.rebase(2, 1));
-        due.answers(1, () -> x.style(2, 2));
-        due.is(false, () -> x.rebase(0, 2));
-        due.is(false, () -> x.rebase(0, 1));
-        due.is(false, () -> x.rebase(0, 0));
-        due.is(false, () -> x.rebase(1, 2));
-        due.answers(-1, () -> x.style(0, 2));
-        due.answers(0, () -> x.style(1, 2));
-        due.is(true, () -> x.rebase(2, 0));
-        due.answers(0, () -> x.style(2, 2));
-        due.is(true, () -> x.rebase(1, 2));
-        due.answers(3, () -> x.style(1, 0));
-        due.answers(7, () -> x.value(1, 8));
-        due.is(true, () -> x.rebase(2, -1));
-        due.answers(-1, () -> x.value(1, 8));
-        due.is(true, () -> x.rebase(2, -1));
-        due.is(true, () -> x.rebase(0, 1));
-        due.answers(3, () -> x.style(0, 0));
-        due.answers(-1, () -> x.style(2, 2));
+        is(true, () -> x.rebase(2, 1));
+        answers(1, () -> x.style(2, 2));
+        is(false, () -> x.rebase(0, 2));
+        is(false, () -> x.rebase(0, 1));
+        is(false, () -> x.rebase(0, 0));
+        is(false, () -> x.rebase(1, 2));
+        answers(-1, () -> x.style(0, 2));
+        answers(0, () -> x.style(1, 2));
+        is(true, () -> x.rebase(2, 0));
+        answers(0, () -> x.style(2, 2));
+        is(true, () -> x.rebase(1, 2));
+        answers(3, () -> x.style(1, 0));
+        answers(7, () -> x.value(1, 8));
+        is(true, () -> x.rebase(2, -1));
+        answers(-1, () -> x.value(1, 8));
+        is(true, () -> x.rebase(2, -1));
+        is(true, () -> x.rebase(0, 1));
+        answers(3, () -> x.style(0, 0));
+        answers(-1, () -> x.style(2, 2));
     }
 
     private void rebaseRefuses() {
-        due.promise("4 rebase, wrong inputs");
+        promise("4 rebase, wrong inputs");
         StyleSheet x = new StyleSheet();
         x.make(1, -1);
         x.make(0, -1);
         x.make(1, 0);
-        due.refuses(ARGUMENT, () -> x.rebase(0, 1));
-        due.refuses(ARGUMENT, () -> x.rebase(1, 0));
-        due.refuses(ARGUMENT, () -> x.rebase(2, 3));
-        due.refuses(ARGUMENT, () -> x.rebase(2, 64));
-        due.refuses(NO_ELEMENT, () -> x.rebase(3, 0));
-        due.refuses(NO_ELEMENT, () -> x.rebase(3, 3));
-        due.refuses(NO_ELEMENT, () -> x.rebase(-1, -1));
-        due.refuses(NO_ELEMENT, () -> x.rebase(64, 64));
+        refuses(ARGUMENT, () -> x.rebase(0, 1));
+        refuses(ARGUMENT, () -> x.rebase(1, 0));
+        refuses(ARGUMENT, () -> x.rebase(2, 3));
+        refuses(ARGUMENT, () -> x.rebase(2, 64));
+        refuses(NO_ELEMENT, () -> x.rebase(3, 0));
+        refuses(NO_ELEMENT, () -> x.rebase(3, 3));
+        refuses(NO_ELEMENT, () -> x.rebase(-1, -1));
+        refuses(NO_ELEMENT, () -> x.rebase(64, 64));
         for (int far : FAR) {
-            due.refuses(ARGUMENT, () -> x.rebase(2, far));
-            due.refuses(NO_ELEMENT, () -> x.rebase(far, far));
+            refuses(ARGUMENT, () -> x.rebase(2, far));
+            refuses(NO_ELEMENT, () -> x.rebase(far, far));
         }
-        due.answers(0, () -> x.style(2, 2));
-        due.answers(-1, () -> x.style(0, 2));
-        due.answers(-1, () -> x.style(1, 2));
+        answers(0, () -> x.style(2, 2));
+        answers(-1, () -> x.style(0, 2));
+        answers(-1, () -> x.style(1, 2));
     }
 
     private void own() {
-        due.promise("5 own");
+        promise("5 own");
         StyleSheet x = new StyleSheet();
         x.make(0, -1);
-        due.passes(() -> x.own(0, 0, 1));
-        due.passes(() -> x.own(0, 0, 0));
-        due.answers(0, () -> x.value(0, 0));
-        due.answers(1, () -> x.style(0, 4));
-        due.passes(() -> x.own(0, 23, 9));
-        due.answers(2, () -> x.style(0, 4));
-        due.passes(() -> x.own(0, 0, -1));
-        due.answers(-1, () -> x.value(0, 0));
-        due.answers(9, () -> x.value(0, 23));
-        due.answers(1, () -> x.style(0, 4));
-        due.passes(() -> x.own(0, 0, -1));
-        due.answers(1, () -> x.style(0, 4));
-        due.refuses(ARGUMENT, () -> x.own(0, 24, 0));
-        due.refuses(ARGUMENT, () -> x.own(0, -1, 0));
-        due.refuses(ARGUMENT, () -> x.own(0, 24, -1));
-        due.refuses(ARGUMENT, () -> x.own(0, 23, 65536));
-        due.refuses(NO_ELEMENT, () -> x.own(1, 0, 0));
-        due.refuses(NO_ELEMENT, () -> x.own(-1, 24, 0));
-        due.refuses(NO_ELEMENT, () -> x.own(64, 0, 2));
+        passes(() -> x.own(0, 0, 1));
+        passes(() -> x.own(0, 0, 0));
+        answers(0, () -> x.value(0, 0));
+        answers(1, () -> x.style(0, 4));
+        passes(() -> x.own(0, 23, 9));
+        answers(2, () -> x.style(0, 4));
+        passes(() -> x.own(0, 0, -1));
+        answers(-1, () -> x.value(0, 0));
+        answers(9, () -> x.value(0, 23));
+        answers(1, () -> x.style(0, 4));
+        passes(() -> x.own(0, 0, -1));
+        answers(1, () -> x.style(0, 4));
+        refuses(ARGUMENT, () -> x.own(0, 24, 0));
+        refuses(ARGUMENT, () -> x.own(0, -1, 0));
+        refuses(ARGUMENT, () -> x.own(0, 24, -1));
+        refuses(ARGUMENT, () -> x.own(0, 23, 65536));
+        refuses(NO_ELEMENT, () -> x.own(1, 0, 0));
+        refuses(NO_ELEMENT, () -> x.own(-1, 24, 0));
+        refuses(NO_ELEMENT, () -> x.own(64, 0, 2));
         for (int far : FAR) {
-            due.refuses(ARGUMENT, () -> x.own(0, 23, far));
-            due.refuses(ARGUMENT, () -> x.own(0, far, 0));
-            due.refuses(NO_ELEMENT, () -> x.own(far, far, far));
+            refuses(ARGUMENT, () -> x.own(0, 23, far));
+            refuses(ARGUMENT, () -> x.own(0, far, 0));
+            refuses(NO_ELEMENT, () -> x.own(far, far, far));
         }
-        due.answers(9, () -> x.value(0, 23));
-        due.answers(1, () -> x.count(2));
+        answers(9, () -> x.value(0, 23));
+        answers(1, () -> x.count(2));
     }
 
     private void ownEdges() {
-        due.promise("5 own, greatest values");
+        promise("5 own, greatest values");
         StyleSheet x = new StyleSheet();
         x.make(1, -1);
         for (int property = 0; property < 24; property++) {
             int p = property;
             int greatest = greatest(p);
-            due.passes(() -> x.own(0, p, greatest));
-            due.refuses(ARGUMENT, () -> x.own(0, p, greatest + 1));
-            due.refuses(ARGUMENT, () -> x.own(0, p, -2));
-            due.answers(greatest, () -> x.value(0, p));
-            due.passes(() -> x.own(0, p, 0));
-            due.answers(0, () -> x.value(0, p));
+            passes(() -> x.own(0, p, greatest));
+            refuses(ARGUMENT, () -> x.own(0, p, greatest + 1));
+            refuses(ARGUMENT, () -> x.own(0, p, -2));
+            answers(greatest, () -> x.value(0, p));
+            passes(() -> x.own(0, p, 0));
+            answers(0, () -> x.value(0, p));
         }
-        due.answers(24, () -> x.style(0, 4));
+        answers(24, () -> x.style(0, 4));
     }
 
     private static int greatest(int property) {
@@ -274,7 +265,7 @@ final class PromiseTest {
     }
 
     private void value() {
-        due.promise("6 value");
+        promise("6 value");
         StyleSheet x = new StyleSheet();
         x.make(0, -1);
         x.make(0, 0);
@@ -283,60 +274,60 @@ final class PromiseTest {
         x.own(1, 10, 0);
         x.own(0, 11, 6);
         x.usual(12, 99);
-        due.answers(0, () -> x.value(2, 10));
-        due.answers(0, () -> x.value(1, 10));
-        due.answers(5, () -> x.value(0, 10));
-        due.answers(6, () -> x.value(2, 11));
-        due.answers(-1, () -> x.value(2, 12));
-        due.passes(() -> x.own(2, 10, 200));
-        due.answers(200, () -> x.value(2, 10));
-        due.answers(0, () -> x.value(1, 10));
-        due.refuses(ARGUMENT, () -> x.value(2, 24));
-        due.refuses(ARGUMENT, () -> x.value(2, -1));
-        due.refuses(NO_ELEMENT, () -> x.value(3, 0));
-        due.refuses(NO_ELEMENT, () -> x.value(3, 24));
-        due.refuses(NO_ELEMENT, () -> x.value(-1, 0));
-        due.refuses(NO_ELEMENT, () -> x.value(64, 0));
+        answers(0, () -> x.value(2, 10));
+        answers(0, () -> x.value(1, 10));
+        answers(5, () -> x.value(0, 10));
+        answers(6, () -> x.value(2, 11));
+        answers(-1, () -> x.value(2, 12));
+        passes(() -> x.own(2, 10, 200));
+        answers(200, () -> x.value(2, 10));
+        answers(0, () -> x.value(1, 10));
+        refuses(ARGUMENT, () -> x.value(2, 24));
+        refuses(ARGUMENT, () -> x.value(2, -1));
+        refuses(NO_ELEMENT, () -> x.value(3, 0));
+        refuses(NO_ELEMENT, () -> x.value(3, 24));
+        refuses(NO_ELEMENT, () -> x.value(-1, 0));
+        refuses(NO_ELEMENT, () -> x.value(64, 0));
         for (int far : FAR) {
-            due.refuses(ARGUMENT, () -> x.value(2, far));
-            due.refuses(NO_ELEMENT, () -> x.value(far, far));
+            refuses(ARGUMENT, () -> x.value(2, far));
+            refuses(NO_ELEMENT, () -> x.value(far, far));
         }
     }
 
     private void giver() {
-        due.promise("7 giver");
+        promise("7 giver");
         StyleSheet x = new StyleSheet();
         for (int number = 0; number < 64; number++) {
             x.make(1, number - 1);
         }
         x.own(0, 16, 1000);
         x.own(30, 17, 0);
-        due.answers(0, () -> x.giver(63, 16));
-        due.answers(1000, () -> x.value(63, 16));
-        due.answers(0, () -> x.giver(0, 16));
-        due.answers(30, () -> x.giver(63, 17));
-        due.answers(30, () -> x.giver(30, 17));
-        due.answers(-1, () -> x.giver(29, 17));
-        due.answers(-1, () -> x.giver(63, 18));
-        due.passes(() -> x.own(31, 16, 1000));
-        due.answers(31, () -> x.giver(63, 16));
-        due.answers(0, () -> x.giver(30, 16));
-        due.passes(() -> x.usual(18, 3));
-        due.answers(-1, () -> x.giver(63, 18));
-        due.answers(1, () -> x.drop(20));
-        due.refuses(ARGUMENT, () -> x.giver(0, 24));
-        due.refuses(ARGUMENT, () -> x.giver(0, -1));
-        due.refuses(NO_ELEMENT, () -> x.giver(20, 0));
-        due.refuses(NO_ELEMENT, () -> x.giver(64, 24));
-        due.refuses(NO_ELEMENT, () -> x.giver(-1, 24));
+        answers(0, () -> x.giver(63, 16));
+        answers(1000, () -> x.value(63, 16));
+        answers(0, () -> x.giver(0, 16));
+        answers(30, () -> x.giver(63, 17));
+        answers(30, () -> x.giver(30, 17));
+        answers(-1, () -> x.giver(29, 17));
+        answers(-1, () -> x.giver(63, 18));
+        passes(() -> x.own(31, 16, 1000));
+        answers(31, () -> x.giver(63, 16));
+        answers(0, () -> x.giver(30, 16));
+        passes(() -> x.usual(18, 3));
+        answers(-1, () -> x.giver(63, 18));
+        answers(1, () -> x.drop(20));
+        refuses(ARGUMENT, () -> x.giver(0, 24));
+        refuses(ARGUMENT, () -> x.giver(0, -1));
+        refuses(NO_ELEMENT, () -> x.giver(20, 0));
+        refuses(NO_ELEMENT, () -> x.giver(64, 24));
+        refuses(NO_ELEMENT, () -> x.giver(-1, 24));
         for (int far : FAR) {
-            due.refuses(ARGUMENT, () -> x.giver(0, far));
-            due.refuses(NO_ELEMENT, () -> x.giver(far, far));
+            refuses(ARGUMENT, () -> x.giver(0, far));
+            refuses(NO_ELEMENT, () -> x.giver(far, far));
         }
     }
 
     private void style() {
-        due.promise("8 style");
+        promise("8 style");
         StyleSheet x = new StyleSheet();
         x.make(0, -1);
         x.make(0, 0);
@@ -346,108 +337,108 @@ final class PromiseTest {
         x.own(1, 5, 0);
         x.own(1, 6, 1);
         x.own(1, 20, 7);
-        due.answers(1, () -> x.style(0, 0));
-        due.answers(2, () -> x.style(1, 0));
-        due.answers(3, () -> x.style(3, 0));
-        due.answers(3, () -> x.style(0, 1));
-        due.answers(1, () -> x.style(1, 1));
-        due.answers(0, () -> x.style(2, 1));
-        due.answers(0, () -> x.style(4, 1));
-        due.answers(-1, () -> x.style(0, 2));
-        due.answers(1, () -> x.style(3, 2));
-        due.answers(0, () -> x.style(0, 3));
-        due.answers(1, () -> x.style(4, 3));
-        due.answers(3, () -> x.style(1, 4));
-        due.answers(0, () -> x.style(3, 4));
-        due.refuses(ARGUMENT, () -> x.style(0, 5));
-        due.refuses(ARGUMENT, () -> x.style(0, -1));
-        due.refuses(NO_ELEMENT, () -> x.style(5, 0));
-        due.refuses(NO_ELEMENT, () -> x.style(5, 5));
-        due.refuses(NO_ELEMENT, () -> x.style(-1, 2));
-        due.refuses(NO_ELEMENT, () -> x.style(64, 2));
+        answers(1, () -> x.style(0, 0));
+        answers(2, () -> x.style(1, 0));
+        answers(3, () -> x.style(3, 0));
+        answers(3, () -> x.style(0, 1));
+        answers(1, () -> x.style(1, 1));
+        answers(0, () -> x.style(2, 1));
+        answers(0, () -> x.style(4, 1));
+        answers(-1, () -> x.style(0, 2));
+        answers(1, () -> x.style(3, 2));
+        answers(0, () -> x.style(0, 3));
+        answers(1, () -> x.style(4, 3));
+        answers(3, () -> x.style(1, 4));
+        answers(0, () -> x.style(3, 4));
+        refuses(ARGUMENT, () -> x.style(0, 5));
+        refuses(ARGUMENT, () -> x.style(0, -1));
+        refuses(NO_ELEMENT, () -> x.style(5, 0));
+        refuses(NO_ELEMENT, () -> x.style(5, 5));
+        refuses(NO_ELEMENT, () -> x.style(-1, 2));
+        refuses(NO_ELEMENT, () -> x.style(64, 2));
         for (int far : FAR) {
-            due.refuses(ARGUMENT, () -> x.style(0, far));
-            due.refuses(NO_ELEMENT, () -> x.style(far, far));
+            refuses(ARGUMENT, () -> x.style(0, far));
+            refuses(NO_ELEMENT, () -> x.style(far, far));
         }
     }
 
     private void usual() {
-        due.promise("9 usual");
+        promise("9 usual");
         StyleSheet x = new StyleSheet();
         x.make(0, -1);
         int set = x.with(0, 9, 4);
         for (int property = 0; property < 24; property++) {
             int p = property;
             int greatest = greatest(p);
-            due.passes(() -> x.usual(p, greatest));
-            due.refuses(ARGUMENT, () -> x.usual(p, greatest + 1));
-            due.refuses(ARGUMENT, () -> x.usual(p, -1));
-            due.answers(greatest, () -> x.resolve(0, 0, -1, p));
-            due.passes(() -> x.usual(p, 1));
+            passes(() -> x.usual(p, greatest));
+            refuses(ARGUMENT, () -> x.usual(p, greatest + 1));
+            refuses(ARGUMENT, () -> x.usual(p, -1));
+            answers(greatest, () -> x.resolve(0, 0, -1, p));
+            passes(() -> x.usual(p, 1));
         }
-        due.answers(1, () -> x.resolve(0, -1, -1, 9));
-        due.answers(4, () -> x.resolve(set, 0, -1, 9));
-        due.answers(-1, () -> x.value(0, 9));
-        due.answers(-1, () -> x.get(0, 9));
-        due.answers(1, () -> x.count(3));
-        due.answers(0, () -> x.count(2));
-        due.refuses(ARGUMENT, () -> x.usual(24, 0));
-        due.refuses(ARGUMENT, () -> x.usual(-1, 0));
+        answers(1, () -> x.resolve(0, -1, -1, 9));
+        answers(4, () -> x.resolve(set, 0, -1, 9));
+        answers(-1, () -> x.value(0, 9));
+        answers(-1, () -> x.get(0, 9));
+        answers(1, () -> x.count(3));
+        answers(0, () -> x.count(2));
+        refuses(ARGUMENT, () -> x.usual(24, 0));
+        refuses(ARGUMENT, () -> x.usual(-1, 0));
         for (int far : FAR) {
-            due.refuses(ARGUMENT, () -> x.usual(far, 0));
-            due.refuses(ARGUMENT, () -> x.usual(23, far));
+            refuses(ARGUMENT, () -> x.usual(far, 0));
+            refuses(ARGUMENT, () -> x.usual(23, far));
         }
-        due.answers(1, () -> x.resolve(0, -1, -1, 23));
+        answers(1, () -> x.resolve(0, -1, -1, 23));
     }
 
     private void with() {
-        due.promise("10 with");
+        promise("10 with");
         StyleSheet x = new StyleSheet();
-        due.answers(1, () -> x.with(0, 0, 0));
-        due.answers(2, () -> x.with(1, 23, 65535));
-        due.answers(3, () -> x.with(2, 0, 1));
-        due.answers(2, () -> x.with(2, 23, 65535));
-        due.answers(2, () -> x.with(3, 0, 0));
-        due.answers(4, () -> x.with(3, 0, -1));
-        due.answers(4, () -> x.with(0, 23, 65535));
-        due.answers(0, () -> x.with(4, 23, -1));
-        due.answers(0, () -> x.with(0, 12, -1));
-        due.answers(4, () -> x.with(4, 12, -1));
-        due.answers(2, () -> x.with(4, 0, 0));
-        due.answers(0, () -> x.get(1, 0));
-        due.answers(-1, () -> x.get(1, 23));
-        due.answers(65535, () -> x.get(3, 23));
-        due.answers(1, () -> x.get(3, 0));
-        due.answers(5, () -> x.count(1));
-        due.passes(() -> x.mark(3));
-        due.answers(3, () -> x.sweep());
-        due.answers(1, () -> x.with(3, 0, -1));
-        due.answers(2, () -> x.with(0, 0, 1));
-        due.answers(4, () -> x.with(2, 8, 255));
-        due.answers(2, () -> x.size(4));
+        answers(1, () -> x.with(0, 0, 0));
+        answers(2, () -> x.with(1, 23, 65535));
+        answers(3, () -> x.with(2, 0, 1));
+        answers(2, () -> x.with(2, 23, 65535));
+        answers(2, () -> x.with(3, 0, 0));
+        answers(4, () -> x.with(3, 0, -1));
+        answers(4, () -> x.with(0, 23, 65535));
+        answers(0, () -> x.with(4, 23, -1));
+        answers(0, () -> x.with(0, 12, -1));
+        answers(4, () -> x.with(4, 12, -1));
+        answers(2, () -> x.with(4, 0, 0));
+        answers(0, () -> x.get(1, 0));
+        answers(-1, () -> x.get(1, 23));
+        answers(65535, () -> x.get(3, 23));
+        answers(1, () -> x.get(3, 0));
+        answers(5, () -> x.count(1));
+        passes(() -> x.mark(3));
+        answers(3, () -> x.sweep());
+        answers(1, () -> x.with(3, 0, -1));
+        answers(2, () -> x.with(0, 0, 1));
+        answers(4, () -> x.with(2, 8, 255));
+        answers(2, () -> x.size(4));
     }
 
     private void withRefuses() {
-        due.promise("10 with, wrong inputs");
+        promise("10 with, wrong inputs");
         StyleSheet x = new StyleSheet();
         for (int property = 0; property < 24; property++) {
             int p = property;
-            due.refuses(ARGUMENT, () -> x.with(0, p, greatest(p) + 1));
-            due.refuses(ARGUMENT, () -> x.with(0, p, -2));
+            refuses(ARGUMENT, () -> x.with(0, p, greatest(p) + 1));
+            refuses(ARGUMENT, () -> x.with(0, p, -2));
         }
-        due.refuses(ARGUMENT, () -> x.with(0, 24, 0));
-        due.refuses(ARGUMENT, () -> x.with(0, -1, 0));
-        due.refuses(ARGUMENT, () -> x.with(0, 24, -1));
-        due.refuses(NO_ELEMENT, () -> x.with(1, 0, 0));
-        due.refuses(NO_ELEMENT, () -> x.with(1, 24, 0));
-        due.refuses(NO_ELEMENT, () -> x.with(-1, 0, 0));
-        due.refuses(NO_ELEMENT, () -> x.with(256, 0, 2));
+        refuses(ARGUMENT, () -> x.with(0, 24, 0));
+        refuses(ARGUMENT, () -> x.with(0, -1, 0));
+        refuses(ARGUMENT, () -> x.with(0, 24, -1));
+        refuses(NO_ELEMENT, () -> x.with(1, 0, 0));
+        refuses(NO_ELEMENT, () -> x.with(1, 24, 0));
+        refuses(NO_ELEMENT, () -> x.with(-1, 0, 0));
+        refuses(NO_ELEMENT, () -> x.with(256, 0, 2));
         for (int far : FAR) {
-            due.refuses(ARGUMENT, () -> x.with(0, far, 0));
-            due.refuses(ARGUMENT, () -> x.with(0, 23, far));
-            due.refuses(NO_ELEMENT, () -> x.with(far, far, far));
+            refuses(ARGUMENT, () -> x.with(0, far, 0));
+            refuses(ARGUMENT, () -> x.with(0, 23, far));
+            refuses(NO_ELEMENT, () -> x.with(far, far, far));
         }
-        due.answers(1, () -> x.count(1));
+        answers(1, () -> x.count(1));
     }
 
     /** 256 sets: 0, those of property 16 = 0 .. 253, and one of property 0 = 1. */
@@ -455,41 +446,41 @@ final class PromiseTest {
         StyleSheet x = new StyleSheet();
         for (int value = 0; value < 254; value++) {
             int v = value;
-            due.answers(v + 1, () -> x.with(0, 16, v));
+            answers(v + 1, () -> x.with(0, 16, v));
         }
-        due.answers(255, () -> x.with(0, 0, 1));
+        answers(255, () -> x.with(0, 0, 1));
         return x;
     }
 
     private void noSetLeft() {
-        due.promise("10, 11, 12 no number left");
+        promise("10, 11, 12 no number left");
         StyleSheet x = fullOfSets();
         x.usual(16, 7);
-        due.refuses(STATE, () -> x.with(0, 16, 254));
-        due.refuses(STATE, () -> x.over(255, 1));
-        due.answers(1, () -> x.with(0, 16, 0));
-        due.answers(255, () -> x.with(255, 0, 1));
-        due.answers(0, () -> x.with(255, 0, -1));
-        due.answers(3, () -> x.over(2, 3));
-        due.answers(0, () -> x.lean(8, -1, -1));
-        due.answers(9, () -> x.lean(9, -1, -1));
-        due.refuses(ARGUMENT, () -> x.with(0, 24, 254));
-        due.refuses(ARGUMENT, () -> x.lean(9, 0, -1));
-        due.refuses(NO_ELEMENT, () -> x.with(256, 16, 254));
-        due.refuses(NO_ELEMENT, () -> x.over(255, 256));
-        due.answers(256, () -> x.count(1));
-        due.answers(255, () -> x.count(3));
-        due.answers(1, () -> x.mark(8));
-        due.answers(2, () -> x.mark(255));
-        due.answers(253, () -> x.sweep());
-        due.answers(1, () -> x.over(8, 255));
-        due.answers(255, () -> x.lean(1, -1, -1));
-        due.answers(4, () -> x.count(1));
+        refuses(STATE, () -> x.with(0, 16, 254));
+        refuses(STATE, () -> x.over(255, 1));
+        answers(1, () -> x.with(0, 16, 0));
+        answers(255, () -> x.with(255, 0, 1));
+        answers(0, () -> x.with(255, 0, -1));
+        answers(3, () -> x.over(2, 3));
+        answers(0, () -> x.lean(8, -1, -1));
+        answers(9, () -> x.lean(9, -1, -1));
+        refuses(ARGUMENT, () -> x.with(0, 24, 254));
+        refuses(ARGUMENT, () -> x.lean(9, 0, -1));
+        refuses(NO_ELEMENT, () -> x.with(256, 16, 254));
+        refuses(NO_ELEMENT, () -> x.over(255, 256));
+        answers(256, () -> x.count(1));
+        answers(255, () -> x.count(3));
+        answers(1, () -> x.mark(8));
+        answers(2, () -> x.mark(255));
+        answers(253, () -> x.sweep());
+        answers(1, () -> x.over(8, 255));
+        answers(255, () -> x.lean(1, -1, -1));
+        answers(4, () -> x.count(1));
         leanNeedsANumber();
     }
 
     private void leanNeedsANumber() {
-        due.promise("12 lean, no number left");
+        promise("12 lean, no number left");
         StyleSheet x = new StyleSheet();
         int both = x.with(x.with(0, 0, 1), 16, 500);
         x.mark(both);
@@ -497,50 +488,50 @@ final class PromiseTest {
         for (int value = 0; value < 254; value++) {
             x.with(0, 17, value);
         }
-        due.answers(256, () -> x.count(1));
-        due.passes(() -> x.usual(16, 500));
-        due.refuses(STATE, () -> x.lean(both, -1, -1));
-        due.refuses(ARGUMENT, () -> x.lean(both, 0, -1));
-        due.refuses(NO_ELEMENT, () -> x.lean(256, -1, -1));
-        due.answers(256, () -> x.count(1));
-        due.answers(2, () -> x.size(both));
-        due.passes(() -> x.usual(16, 501));
-        due.answers(both, () -> x.lean(both, -1, -1));
+        answers(256, () -> x.count(1));
+        passes(() -> x.usual(16, 500));
+        refuses(STATE, () -> x.lean(both, -1, -1));
+        refuses(ARGUMENT, () -> x.lean(both, 0, -1));
+        refuses(NO_ELEMENT, () -> x.lean(256, -1, -1));
+        answers(256, () -> x.count(1));
+        answers(2, () -> x.size(both));
+        passes(() -> x.usual(16, 501));
+        answers(both, () -> x.lean(both, -1, -1));
     }
 
     private void over() {
-        due.promise("11 over");
+        promise("11 over");
         StyleSheet x = new StyleSheet();
         int left = x.with(x.with(0, 8, 1), 9, 2);
         int right = x.with(x.with(0, 9, 3), 10, 0);
-        due.answers(5, () -> x.over(left, right));
-        due.answers(1, () -> x.get(5, 8));
-        due.answers(3, () -> x.get(5, 9));
-        due.answers(0, () -> x.get(5, 10));
-        due.answers(3, () -> x.size(5));
-        due.answers(6, () -> x.over(right, left));
-        due.answers(2, () -> x.get(6, 9));
-        due.answers(left, () -> x.over(left, 0));
-        due.answers(left, () -> x.over(0, left));
-        due.answers(left, () -> x.over(left, left));
-        due.answers(0, () -> x.over(0, 0));
-        due.answers(5, () -> x.over(6, right));
-        due.answers(7, () -> x.count(1));
-        due.refuses(NO_ELEMENT, () -> x.over(7, 0));
-        due.refuses(NO_ELEMENT, () -> x.over(0, 7));
-        due.refuses(NO_ELEMENT, () -> x.over(-1, 0));
-        due.refuses(NO_ELEMENT, () -> x.over(0, -1));
-        due.refuses(NO_ELEMENT, () -> x.over(256, 0));
-        due.refuses(NO_ELEMENT, () -> x.over(0, 256));
+        answers(5, () -> x.over(left, right));
+        answers(1, () -> x.get(5, 8));
+        answers(3, () -> x.get(5, 9));
+        answers(0, () -> x.get(5, 10));
+        answers(3, () -> x.size(5));
+        answers(6, () -> x.over(right, left));
+        answers(2, () -> x.get(6, 9));
+        answers(left, () -> x.over(left, 0));
+        answers(left, () -> x.over(0, left));
+        answers(left, () -> x.over(left, left));
+        answers(0, () -> x.over(0, 0));
+        answers(5, () -> x.over(6, right));
+        answers(7, () -> x.count(1));
+        refuses(NO_ELEMENT, () -> x.over(7, 0));
+        refuses(NO_ELEMENT, () -> x.over(0, 7));
+        refuses(NO_ELEMENT, () -> x.over(-1, 0));
+        refuses(NO_ELEMENT, () -> x.over(0, -1));
+        refuses(NO_ELEMENT, () -> x.over(256, 0));
+        refuses(NO_ELEMENT, () -> x.over(0, 256));
         for (int far : FAR) {
-            due.refuses(NO_ELEMENT, () -> x.over(0, far));
-            due.refuses(NO_ELEMENT, () -> x.over(far, 0));
+            refuses(NO_ELEMENT, () -> x.over(0, far));
+            refuses(NO_ELEMENT, () -> x.over(far, 0));
         }
-        due.answers(7, () -> x.count(1));
+        answers(7, () -> x.count(1));
     }
 
     private void lean() {
-        due.promise("12 lean");
+        promise("12 lean");
         StyleSheet x = new StyleSheet();
         int c = x.make(0, x.make(0, -1));
         int q = x.make(1, -1);
@@ -549,99 +540,99 @@ final class PromiseTest {
         x.own(q, 9, 7);
         x.usual(10, 8);
         int all = x.with(x.with(x.with(x.with(0, 8, 5), 9, 7), 10, 8), 11, 0);
-        due.answers(4, () -> all);
-        due.answers(0, () -> x.lean(all, c, q));
-        due.answers(1, () -> x.lean(all, -1, q));
-        due.answers(0, () -> x.lean(0, c, q));
+        answers(4, () -> all);
+        answers(0, () -> x.lean(all, c, q));
+        answers(1, () -> x.lean(all, -1, q));
+        answers(0, () -> x.lean(0, c, q));
         int noCharacters = x.with(x.with(0, 9, 7), 8, 6);
-        due.answers(0, () -> x.lean(noCharacters, -1, q));
+        answers(0, () -> x.lean(noCharacters, -1, q));
         int kept = x.with(0, 8, 6);
-        due.answers(kept, () -> x.lean(noCharacters, c, q));
-        due.answers(2, () -> x.lean(all, -1, -1));
-        due.answers(noCharacters, () -> x.lean(noCharacters, -1, -1));
-        due.passes(() -> x.own(0, 8, -1));
-        due.answers(0, () -> x.lean(noCharacters, c, q));
-        due.passes(() -> x.usual(8, 6));
-        due.answers(0, () -> x.lean(kept, c, -1));
-        due.passes(() -> x.own(q, 8, 0));
-        due.answers(kept, () -> x.lean(kept, c, q));
+        answers(kept, () -> x.lean(noCharacters, c, q));
+        answers(2, () -> x.lean(all, -1, -1));
+        answers(noCharacters, () -> x.lean(noCharacters, -1, -1));
+        passes(() -> x.own(0, 8, -1));
+        answers(0, () -> x.lean(noCharacters, c, q));
+        passes(() -> x.usual(8, 6));
+        answers(0, () -> x.lean(kept, c, -1));
+        passes(() -> x.own(q, 8, 0));
+        answers(kept, () -> x.lean(kept, c, q));
         int before = x.count(1);
         int half = x.with(x.with(0, 12, 1), 8, 0);
-        due.answers(before + 2, () -> x.count(1));
-        due.answers(before, () -> x.lean(half, c, q));
-        due.answers(before + 2, () -> x.count(1));
+        answers(before + 2, () -> x.count(1));
+        answers(before, () -> x.lean(half, c, q));
+        answers(before + 2, () -> x.count(1));
     }
 
     private void leanRefuses() {
-        due.promise("12 lean, wrong inputs");
+        promise("12 lean, wrong inputs");
         StyleSheet x = new StyleSheet();
         x.make(0, -1);
         x.make(1, -1);
-        due.refuses(ARGUMENT, () -> x.lean(0, 1, -1));
-        due.refuses(ARGUMENT, () -> x.lean(0, -1, 0));
-        due.refuses(ARGUMENT, () -> x.lean(0, 2, 1));
-        due.refuses(ARGUMENT, () -> x.lean(0, 0, 2));
-        due.refuses(ARGUMENT, () -> x.lean(0, 64, 1));
-        due.refuses(ARGUMENT, () -> x.lean(0, 0, 64));
-        due.refuses(NO_ELEMENT, () -> x.lean(1, 0, 1));
-        due.refuses(NO_ELEMENT, () -> x.lean(1, 1, 0));
-        due.refuses(NO_ELEMENT, () -> x.lean(-1, -1, -1));
-        due.refuses(NO_ELEMENT, () -> x.lean(256, -1, -1));
+        refuses(ARGUMENT, () -> x.lean(0, 1, -1));
+        refuses(ARGUMENT, () -> x.lean(0, -1, 0));
+        refuses(ARGUMENT, () -> x.lean(0, 2, 1));
+        refuses(ARGUMENT, () -> x.lean(0, 0, 2));
+        refuses(ARGUMENT, () -> x.lean(0, 64, 1));
+        refuses(ARGUMENT, () -> x.lean(0, 0, 64));
+        refuses(NO_ELEMENT, () -> x.lean(1, 0, 1));
+        refuses(NO_ELEMENT, () -> x.lean(1, 1, 0));
+        refuses(NO_ELEMENT, () -> x.lean(-1, -1, -1));
+        refuses(NO_ELEMENT, () -> x.lean(256, -1, -1));
         for (int far : FAR) {
-            due.refuses(ARGUMENT, () -> x.lean(0, far, -1));
-            due.refuses(ARGUMENT, () -> x.lean(0, -1, far));
-            due.refuses(NO_ELEMENT, () -> x.lean(far, far, far));
+            refuses(ARGUMENT, () -> x.lean(0, far, -1));
+            refuses(ARGUMENT, () -> x.lean(0, -1, far));
+            refuses(NO_ELEMENT, () -> x.lean(far, far, far));
         }
     }
 
     private void get() {
-        due.promise("13 get");
+        promise("13 get");
         StyleSheet x = new StyleSheet();
-        due.answers(1, () -> x.with(0, 15, 255));
-        due.answers(2, () -> x.with(1, 0, 0));
-        due.answers(255, () -> x.get(1, 15));
-        due.answers(-1, () -> x.get(1, 0));
-        due.answers(0, () -> x.get(2, 0));
-        due.answers(255, () -> x.get(2, 15));
-        due.answers(-1, () -> x.get(0, 15));
-        due.passes(() -> x.usual(14, 9));
-        due.answers(-1, () -> x.get(2, 14));
-        due.refuses(ARGUMENT, () -> x.get(0, 24));
-        due.refuses(ARGUMENT, () -> x.get(0, -1));
-        due.refuses(NO_ELEMENT, () -> x.get(3, 0));
-        due.refuses(NO_ELEMENT, () -> x.get(3, 24));
-        due.refuses(NO_ELEMENT, () -> x.get(-1, 0));
-        due.refuses(NO_ELEMENT, () -> x.get(256, 0));
+        answers(1, () -> x.with(0, 15, 255));
+        answers(2, () -> x.with(1, 0, 0));
+        answers(255, () -> x.get(1, 15));
+        answers(-1, () -> x.get(1, 0));
+        answers(0, () -> x.get(2, 0));
+        answers(255, () -> x.get(2, 15));
+        answers(-1, () -> x.get(0, 15));
+        passes(() -> x.usual(14, 9));
+        answers(-1, () -> x.get(2, 14));
+        refuses(ARGUMENT, () -> x.get(0, 24));
+        refuses(ARGUMENT, () -> x.get(0, -1));
+        refuses(NO_ELEMENT, () -> x.get(3, 0));
+        refuses(NO_ELEMENT, () -> x.get(3, 24));
+        refuses(NO_ELEMENT, () -> x.get(-1, 0));
+        refuses(NO_ELEMENT, () -> x.get(256, 0));
         for (int far : FAR) {
-            due.refuses(ARGUMENT, () -> x.get(0, far));
-            due.refuses(NO_ELEMENT, () -> x.get(far, far));
+            refuses(ARGUMENT, () -> x.get(0, far));
+            refuses(NO_ELEMENT, () -> x.get(far, far));
         }
     }
 
     private void size() {
-        due.promise("14 size");
+        promise("14 size");
         StyleSheet x = new StyleSheet();
         for (int property = 0; property < 24; property++) {
             int p = property;
-            due.answers(p + 1, () -> x.with(p, p, 0));
-            due.answers(p + 1, () -> x.size(p + 1));
+            answers(p + 1, () -> x.with(p, p, 0));
+            answers(p + 1, () -> x.size(p + 1));
         }
-        due.answers(0, () -> x.size(0));
-        due.answers(-1, () -> x.size(25));
-        due.answers(-1, () -> x.size(-1));
-        due.answers(-1, () -> x.size(256));
+        answers(0, () -> x.size(0));
+        answers(-1, () -> x.size(25));
+        answers(-1, () -> x.size(-1));
+        answers(-1, () -> x.size(256));
         for (int far : FAR) {
-            due.answers(-1, () -> x.size(far));
+            answers(-1, () -> x.size(far));
         }
-        due.answers(1, () -> x.mark(24));
-        due.answers(23, () -> x.sweep());
-        due.answers(-1, () -> x.size(23));
-        due.answers(24, () -> x.size(24));
-        due.answers(0, () -> x.size(0));
+        answers(1, () -> x.mark(24));
+        answers(23, () -> x.sweep());
+        answers(-1, () -> x.size(23));
+        answers(24, () -> x.size(24));
+        answers(0, () -> x.size(0));
     }
 
     private void resolve() {
-        due.promise("15 resolve");
+        promise("15 resolve");
         StyleSheet x = new StyleSheet();
         int c = x.make(0, x.make(0, -1));
         int q = x.make(1, -1);
@@ -649,155 +640,155 @@ final class PromiseTest {
         x.usual(16, 1);
         x.own(q, 16, 2);
         x.own(0, 16, 3);
-        due.answers(0, () -> x.resolve(set, c, q, 16));
-        due.answers(3, () -> x.resolve(0, c, q, 16));
-        due.answers(3, () -> x.resolve(0, c, -1, 16));
-        due.answers(2, () -> x.resolve(0, -1, q, 16));
-        due.answers(1, () -> x.resolve(0, -1, -1, 16));
-        due.answers(9, () -> x.resolve(set, -1, -1, 20));
-        due.answers(0, () -> x.resolve(set, c, q, 21));
-        due.passes(() -> x.own(c, 16, 0));
-        due.answers(0, () -> x.resolve(0, c, q, 16));
-        due.passes(() -> x.own(c, 16, -1));
-        due.passes(() -> x.own(0, 16, -1));
-        due.answers(2, () -> x.resolve(0, c, q, 16));
-        due.passes(() -> x.own(q, 16, -1));
-        due.answers(1, () -> x.resolve(0, c, q, 16));
+        answers(0, () -> x.resolve(set, c, q, 16));
+        answers(3, () -> x.resolve(0, c, q, 16));
+        answers(3, () -> x.resolve(0, c, -1, 16));
+        answers(2, () -> x.resolve(0, -1, q, 16));
+        answers(1, () -> x.resolve(0, -1, -1, 16));
+        answers(9, () -> x.resolve(set, -1, -1, 20));
+        answers(0, () -> x.resolve(set, c, q, 21));
+        passes(() -> x.own(c, 16, 0));
+        answers(0, () -> x.resolve(0, c, q, 16));
+        passes(() -> x.own(c, 16, -1));
+        passes(() -> x.own(0, 16, -1));
+        answers(2, () -> x.resolve(0, c, q, 16));
+        passes(() -> x.own(q, 16, -1));
+        answers(1, () -> x.resolve(0, c, q, 16));
     }
 
     private void resolveRefuses() {
-        due.promise("15 resolve, wrong inputs");
+        promise("15 resolve, wrong inputs");
         StyleSheet x = new StyleSheet();
         x.make(0, -1);
         x.make(1, -1);
-        due.refuses(ARGUMENT, () -> x.resolve(0, 1, 1, 0));
-        due.refuses(ARGUMENT, () -> x.resolve(0, 0, 0, 0));
-        due.refuses(ARGUMENT, () -> x.resolve(0, 2, -1, 0));
-        due.refuses(ARGUMENT, () -> x.resolve(0, -1, 2, 0));
-        due.refuses(ARGUMENT, () -> x.resolve(0, 0, 1, 24));
-        due.refuses(ARGUMENT, () -> x.resolve(0, 0, 1, -1));
-        due.refuses(NO_ELEMENT, () -> x.resolve(1, 0, 1, 0));
-        due.refuses(NO_ELEMENT, () -> x.resolve(1, 1, 0, 24));
-        due.refuses(NO_ELEMENT, () -> x.resolve(-1, -1, -1, 0));
-        due.refuses(NO_ELEMENT, () -> x.resolve(256, -1, -1, 0));
+        refuses(ARGUMENT, () -> x.resolve(0, 1, 1, 0));
+        refuses(ARGUMENT, () -> x.resolve(0, 0, 0, 0));
+        refuses(ARGUMENT, () -> x.resolve(0, 2, -1, 0));
+        refuses(ARGUMENT, () -> x.resolve(0, -1, 2, 0));
+        refuses(ARGUMENT, () -> x.resolve(0, 0, 1, 24));
+        refuses(ARGUMENT, () -> x.resolve(0, 0, 1, -1));
+        refuses(NO_ELEMENT, () -> x.resolve(1, 0, 1, 0));
+        refuses(NO_ELEMENT, () -> x.resolve(1, 1, 0, 24));
+        refuses(NO_ELEMENT, () -> x.resolve(-1, -1, -1, 0));
+        refuses(NO_ELEMENT, () -> x.resolve(256, -1, -1, 0));
         for (int far : FAR) {
-            due.refuses(ARGUMENT, () -> x.resolve(0, far, 1, 0));
-            due.refuses(ARGUMENT, () -> x.resolve(0, 0, far, 0));
-            due.refuses(ARGUMENT, () -> x.resolve(0, 0, 1, far));
-            due.refuses(NO_ELEMENT, () -> x.resolve(far, far, far, far));
+            refuses(ARGUMENT, () -> x.resolve(0, far, 1, 0));
+            refuses(ARGUMENT, () -> x.resolve(0, 0, far, 0));
+            refuses(ARGUMENT, () -> x.resolve(0, 0, 1, far));
+            refuses(NO_ELEMENT, () -> x.resolve(far, far, far, far));
         }
     }
 
     private void differ() {
-        due.promise("16 differ");
+        promise("16 differ");
         StyleSheet x = new StyleSheet();
         int c = x.make(0, -1);
         int q = x.make(1, -1);
         int left = x.with(x.with(0, 8, 1), 23, 2);
         int right = x.with(x.with(0, 8, 1), 23, 3);
-        due.answers(23, () -> x.differ(left, right, c, q));
-        due.answers(23, () -> x.differ(right, left, -1, -1));
-        due.answers(8, () -> x.differ(left, 0, c, q));
-        due.answers(8, () -> x.differ(0, left, c, q));
-        due.answers(-1, () -> x.differ(left, left, c, q));
-        due.answers(-1, () -> x.differ(0, 0, -1, -1));
-        due.passes(() -> x.own(c, 8, 1));
-        due.answers(23, () -> x.differ(left, 0, c, q));
-        due.passes(() -> x.own(q, 23, 2));
-        due.answers(-1, () -> x.differ(left, 0, c, q));
-        due.answers(23, () -> x.differ(right, 0, c, q));
-        due.answers(8, () -> x.differ(left, 0, -1, q));
-        due.passes(() -> x.usual(8, 1));
-        due.answers(-1, () -> x.differ(left, 0, -1, q));
-        due.answers(23, () -> x.differ(left, 0, c, -1));
+        answers(23, () -> x.differ(left, right, c, q));
+        answers(23, () -> x.differ(right, left, -1, -1));
+        answers(8, () -> x.differ(left, 0, c, q));
+        answers(8, () -> x.differ(0, left, c, q));
+        answers(-1, () -> x.differ(left, left, c, q));
+        answers(-1, () -> x.differ(0, 0, -1, -1));
+        passes(() -> x.own(c, 8, 1));
+        answers(23, () -> x.differ(left, 0, c, q));
+        passes(() -> x.own(q, 23, 2));
+        answers(-1, () -> x.differ(left, 0, c, q));
+        answers(23, () -> x.differ(right, 0, c, q));
+        answers(8, () -> x.differ(left, 0, -1, q));
+        passes(() -> x.usual(8, 1));
+        answers(-1, () -> x.differ(left, 0, -1, q));
+        answers(23, () -> x.differ(left, 0, c, -1));
         int zero = x.with(0, 0, 0);
-        due.answers(-1, () -> x.differ(zero, 0, c, q));
+        answers(-1, () -> x.differ(zero, 0, c, q));
         int one = x.with(0, 0, 1);
-        due.answers(0, () -> x.differ(zero, one, c, q));
+        answers(0, () -> x.differ(zero, one, c, q));
     }
 
     private void differRefuses() {
-        due.promise("16 differ, wrong inputs");
+        promise("16 differ, wrong inputs");
         StyleSheet x = new StyleSheet();
         x.make(0, -1);
         x.make(1, -1);
-        due.refuses(ARGUMENT, () -> x.differ(0, 0, 1, 1));
-        due.refuses(ARGUMENT, () -> x.differ(0, 0, 0, 0));
-        due.refuses(ARGUMENT, () -> x.differ(0, 0, 2, -1));
-        due.refuses(ARGUMENT, () -> x.differ(0, 0, -1, 64));
-        due.refuses(NO_ELEMENT, () -> x.differ(1, 0, 0, 1));
-        due.refuses(NO_ELEMENT, () -> x.differ(0, 1, 0, 1));
-        due.refuses(NO_ELEMENT, () -> x.differ(0, 1, 1, 0));
-        due.refuses(NO_ELEMENT, () -> x.differ(-1, 0, -1, -1));
-        due.refuses(NO_ELEMENT, () -> x.differ(0, 256, -1, -1));
+        refuses(ARGUMENT, () -> x.differ(0, 0, 1, 1));
+        refuses(ARGUMENT, () -> x.differ(0, 0, 0, 0));
+        refuses(ARGUMENT, () -> x.differ(0, 0, 2, -1));
+        refuses(ARGUMENT, () -> x.differ(0, 0, -1, 64));
+        refuses(NO_ELEMENT, () -> x.differ(1, 0, 0, 1));
+        refuses(NO_ELEMENT, () -> x.differ(0, 1, 0, 1));
+        refuses(NO_ELEMENT, () -> x.differ(0, 1, 1, 0));
+        refuses(NO_ELEMENT, () -> x.differ(-1, 0, -1, -1));
+        refuses(NO_ELEMENT, () -> x.differ(0, 256, -1, -1));
         for (int far : FAR) {
-            due.refuses(ARGUMENT, () -> x.differ(0, 0, far, 1));
-            due.refuses(ARGUMENT, () -> x.differ(0, 0, 0, far));
-            due.refuses(NO_ELEMENT, () -> x.differ(far, 0, far, far));
-            due.refuses(NO_ELEMENT, () -> x.differ(0, far, far, far));
+            refuses(ARGUMENT, () -> x.differ(0, 0, far, 1));
+            refuses(ARGUMENT, () -> x.differ(0, 0, 0, far));
+            refuses(NO_ELEMENT, () -> x.differ(far, 0, far, far));
+            refuses(NO_ELEMENT, () -> x.differ(0, far, far, far));
         }
     }
 
     private void mark() {
-        due.promise("17 mark");
+        promise("17 mark");
         StyleSheet x = new StyleSheet();
         x.with(0, 0, 0);
         x.with(0, 0, 1);
-        due.answers(1, () -> x.mark(2));
-        due.answers(1, () -> x.mark(2));
-        due.answers(2, () -> x.mark(0));
-        due.answers(2, () -> x.mark(0));
-        due.answers(2, () -> x.mark(2));
-        due.answers(3, () -> x.with(2, 1, 1));
-        due.answers(3, () -> x.mark(3));
-        due.refuses(NO_ELEMENT, () -> x.mark(4));
-        due.refuses(NO_ELEMENT, () -> x.mark(-1));
-        due.refuses(NO_ELEMENT, () -> x.mark(256));
+        answers(1, () -> x.mark(2));
+        answers(1, () -> x.mark(2));
+        answers(2, () -> x.mark(0));
+        answers(2, () -> x.mark(0));
+        answers(2, () -> x.mark(2));
+        answers(3, () -> x.with(2, 1, 1));
+        answers(3, () -> x.mark(3));
+        refuses(NO_ELEMENT, () -> x.mark(4));
+        refuses(NO_ELEMENT, () -> x.mark(-1));
+        refuses(NO_ELEMENT, () -> x.mark(256));
         for (int far : FAR) {
-            due.refuses(NO_ELEMENT, () -> x.mark(far));
+            refuses(NO_ELEMENT, () -> x.mark(far));
         }
-        due.answers(3, () -> x.mark(3));
-        due.answers(1, () -> x.sweep());
-        due.answers(1, () -> x.with(0, 20, 20));
-        due.answers(1, () -> x.mark(3));
-        due.answers(2, () -> x.sweep());
+        answers(3, () -> x.mark(3));
+        answers(1, () -> x.sweep());
+        answers(1, () -> x.with(0, 20, 20));
+        answers(1, () -> x.mark(3));
+        answers(2, () -> x.sweep());
     }
 
     private void sweep() {
-        due.promise("18 sweep");
+        promise("18 sweep");
         StyleSheet x = new StyleSheet();
-        due.answers(0, () -> x.sweep());
+        answers(0, () -> x.sweep());
         x.make(1, -1);
         x.own(0, 9, 9);
         x.with(0, 8, 1);
         x.with(0, 8, 2);
         x.with(0, 8, 3);
-        due.answers(1, () -> x.mark(2));
-        due.answers(2, () -> x.sweep());
-        due.answers(2, () -> x.count(1));
-        due.answers(2, () -> x.get(2, 8));
-        due.answers(0, () -> x.size(0));
-        due.refuses(NO_ELEMENT, () -> x.get(1, 8));
-        due.refuses(NO_ELEMENT, () -> x.mark(3));
-        due.answers(1, () -> x.count(3));
-        due.answers(9, () -> x.value(0, 9));
-        due.answers(1, () -> x.with(0, 8, 3));
-        due.answers(3, () -> x.with(0, 8, 1));
-        due.answers(1, () -> x.size(1));
-        due.answers(1, () -> x.mark(0));
-        due.answers(3, () -> x.sweep());
-        due.answers(1, () -> x.count(1));
-        due.answers(0, () -> x.count(3));
-        due.answers(1, () -> x.mark(0));
-        due.answers(1, () -> x.with(0, 23, 1));
-        due.answers(-1, () -> x.get(1, 8));
-        due.answers(2, () -> x.mark(1));
-        due.answers(0, () -> x.sweep());
-        due.answers(1, () -> x.sweep());
+        answers(1, () -> x.mark(2));
+        answers(2, () -> x.sweep());
+        answers(2, () -> x.count(1));
+        answers(2, () -> x.get(2, 8));
+        answers(0, () -> x.size(0));
+        refuses(NO_ELEMENT, () -> x.get(1, 8));
+        refuses(NO_ELEMENT, () -> x.mark(3));
+        answers(1, () -> x.count(3));
+        answers(9, () -> x.value(0, 9));
+        answers(1, () -> x.with(0, 8, 3));
+        answers(3, () -> x.with(0, 8, 1));
+        answers(1, () -> x.size(1));
+        answers(1, () -> x.mark(0));
+        answers(3, () -> x.sweep());
+        answers(1, () -> x.count(1));
+        answers(0, () -> x.count(3));
+        answers(1, () -> x.mark(0));
+        answers(1, () -> x.with(0, 23, 1));
+        answers(-1, () -> x.get(1, 8));
+        answers(2, () -> x.mark(1));
+        answers(0, () -> x.sweep());
+        answers(1, () -> x.sweep());
     }
 
     private void count() {
-        due.promise("19 count");
+        promise("19 count");
         StyleSheet x = new StyleSheet();
         x.make(0, -1);
         x.make(0, 0);
@@ -809,26 +800,26 @@ final class PromiseTest {
         x.own(4, 23, 1);
         x.own(4, 22, 1);
         x.with(x.with(0, 5, 0), 6, 0);
-        due.answers(5, () -> x.count(0));
-        due.answers(3, () -> x.count(1));
-        due.answers(4, () -> x.count(2));
-        due.answers(3, () -> x.count(3));
-        due.answers(3, () -> x.count(4));
-        due.answers(-1, () -> x.count(5));
-        due.answers(-1, () -> x.count(-1));
+        answers(5, () -> x.count(0));
+        answers(3, () -> x.count(1));
+        answers(4, () -> x.count(2));
+        answers(3, () -> x.count(3));
+        answers(3, () -> x.count(4));
+        answers(-1, () -> x.count(5));
+        answers(-1, () -> x.count(-1));
         for (int far : FAR) {
-            due.answers(-1, () -> x.count(far));
+            answers(-1, () -> x.count(far));
         }
-        due.answers(1, () -> x.drop(0));
-        due.answers(4, () -> x.count(0));
-        due.answers(3, () -> x.count(2));
-        due.answers(2, () -> x.count(4));
-        due.is(true, () -> x.rebase(2, -1));
-        due.is(true, () -> x.rebase(4, -1));
-        due.answers(1, () -> x.count(4));
-        due.answers(2, () -> x.sweep());
-        due.answers(1, () -> x.count(1));
-        due.answers(0, () -> x.count(3));
+        answers(1, () -> x.drop(0));
+        answers(4, () -> x.count(0));
+        answers(3, () -> x.count(2));
+        answers(2, () -> x.count(4));
+        is(true, () -> x.rebase(2, -1));
+        is(true, () -> x.rebase(4, -1));
+        answers(1, () -> x.count(4));
+        answers(2, () -> x.sweep());
+        answers(1, () -> x.count(1));
+        answers(0, () -> x.count(3));
         longestChainOfAll();
     }
 
@@ -837,41 +828,41 @@ final class PromiseTest {
         for (int number = 0; number < 64; number++) {
             x.make(0, number - 1);
         }
-        due.answers(64, () -> x.count(4));
-        due.answers(64, () -> x.style(63, 0));
-        due.answers(63, () -> x.style(0, 1));
-        due.is(false, () -> x.rebase(0, 63));
-        due.answers(1, () -> x.drop(0));
-        due.answers(63, () -> x.count(4));
+        answers(64, () -> x.count(4));
+        answers(64, () -> x.style(63, 0));
+        answers(63, () -> x.style(0, 1));
+        is(false, () -> x.rebase(0, 63));
+        answers(1, () -> x.drop(0));
+        answers(63, () -> x.count(4));
     }
 
     private void leastStyleOnOthers() {
-        due.promise("3, 8, 19 style 0 based on another one");
+        promise("3, 8, 19 style 0 based on another one");
         StyleSheet x = new StyleSheet();
         x.make(1, -1);
         x.make(1, -1);
         x.make(1, -1);
         x.rebase(0, 2);
-        due.answers(2, () -> x.count(4));
-        due.answers(1, () -> x.style(2, 1));
-        due.answers(1, () -> x.drop(2));
-        due.answers(-1, () -> x.style(0, 2));
-        due.answers(1, () -> x.count(4));
+        answers(2, () -> x.count(4));
+        answers(1, () -> x.style(2, 1));
+        answers(1, () -> x.drop(2));
+        answers(-1, () -> x.style(0, 2));
+        answers(1, () -> x.count(4));
     }
 
     private void objectsAreApart() {
-        due.promise("1 a new object, beside another");
+        promise("1 a new object, beside another");
         StyleSheet x = new StyleSheet();
         x.make(0, -1);
         x.own(0, 0, 1);
         x.usual(1, 1);
         x.mark(x.with(0, 2, 1));
         StyleSheet y = new StyleSheet();
-        due.answers(0, () -> y.count(0));
-        due.answers(1, () -> y.count(1));
-        due.answers(0, () -> y.resolve(0, -1, -1, 1));
-        due.answers(1, () -> y.mark(0));
-        due.answers(1, () -> x.count(0));
-        due.answers(2, () -> x.mark(0));
+        answers(0, () -> y.count(0));
+        answers(1, () -> y.count(1));
+        answers(0, () -> y.resolve(0, -1, -1, 1));
+        answers(1, () -> y.mark(0));
+        answers(1, () -> x.count(0));
+        answers(2, () -> x.mark(0));
     }
 }
